@@ -497,7 +497,6 @@ public final class MobileCall {
             state = newState;
             call = NO_CALL;
             timer = newTimer;
-            releasedTwice = false;
         }
 
         final void setCall(int newCall, int newTimer) {
@@ -637,7 +636,8 @@ public final class MobileCall {
         }
 
         boolean takesCalling(Message message) {
-            if (state != CONNECTED || call == NO_CALL) {
+            // When CONNECTED there is always a call, so that RELEASE and RELEASED need not look for one.
+            if (state != CONNECTED) {
                 return false;
             }
             switch (message.type()) {

@@ -31,9 +31,10 @@ public final class LanguageRules {
 
   private static void face() {
     Set<String> seen = new TreeSet<>();
-    Set<String> hidden = new TreeSet<>();
     for (Field f : MobileCall.class.getDeclaredFields()) {
-      (Modifier.isPrivate(f.getModifiers()) ? hidden : seen).add(f.getName() + " " + f.getType());
+      if (!Modifier.isPrivate(f.getModifiers())) {
+        seen.add(f.getName() + " " + f.getType());
+      }
     }
     for (Constructor<?> c : MobileCall.class.getDeclaredConstructors()) {
       seen.add("MobileCall" + types(c.getParameterTypes()));
