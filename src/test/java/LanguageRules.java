@@ -1,64 +1,18 @@
 import java.io.IOException;
 import java.lang.management.ManagementFactory;
-import java.lang.reflect.Constructor;
 import java.lang.reflect.Field;
-import java.lang.reflect.Method;
 import java.lang.reflect.Modifier;
 import java.nio.file.Files;
 import java.nio.file.Path;
-import java.util.Arrays;
-import java.util.Set;
-import java.util.TreeSet;
 import java.util.regex.Pattern;
-import java.util.stream.Collectors;
 
-/** Rules of LANGUAGE.md that a program can look at: the face, forbidden words, and what the calls make. */
+/** Rules of LANGUAGE.md that a program can look at: the classes inside, forbidden words, and what the calls make. */
 public final class LanguageRules {
-  private static final Set<String> FACE = new TreeSet<>(Set.of(
-      "BAD int", "NOT_SO int", "NONE int", "MobileCall(int,int,int)", "power(boolean) int", "update(int) int",
-      "dial(int,int) int", "hang() int", "alert() int", "answer() int", "clear(int) int", "accept(int) int",
-      "radio(boolean) int", "carry(int) int", "lose(int) int", "spoil(int,int,int) int", "forge(int,long,int) int",
-      "tick(int) int", "told(int) int", "byteOf(int,int,int) int", "digit(int) int"));
-
   public static void main(String[] args) throws IOException {
-    face();
-    constants();
     nested();
     words();
     room();
     Script.end();
-  }
-
-  private static void face() {
-    Set<String> seen = new TreeSet<>();
-    for (Field f : MobileCall.class.getDeclaredFields()) {
-      if (!Modifier.isPrivate(f.getModifiers())) {
-        seen.add(f.getName() + " " + f.getType());
-      }
-    }
-    for (Constructor<?> c : MobileCall.class.getDeclaredConstructors()) {
-      seen.add("MobileCall" + types(c.getParameterTypes()));
-    }
-    Set<String> privateNames = new TreeSet<>();
-    for (Method m : MobileCall.class.getDeclaredMethods()) {
-      if (Modifier.isPrivate(m.getModifiers())) {
-        privateNames.add(m.getName());
-      } else {
-        seen.add(m.getName() + types(m.getParameterTypes()) + " " + m.getReturnType());
-        Script.due(m.getName() + " is public", Modifier.isPublic(m.getModifiers()), true);
-      }
-    }
-    Script.due("the face", seen, FACE);
-    Script.due("the class is public and final", MobileCall.class.getModifiers(), Modifier.PUBLIC | Modifier.FINAL);
-    for (Method m : MobileCall.class.getMethods()) {
-      Script.due("a private method " + m.getName(), privateNames.contains(m.getName()), false);
-    }
-  }
-
-  private static void constants() {
-    Script.due("BAD", MobileCall.BAD, -1);
-    Script.due("NOT_SO", MobileCall.NOT_SO, -2);
-    Script.due("NONE", MobileCall.NONE, -3);
   }
 
   private static void nested() {
@@ -132,9 +86,5 @@ public final class LanguageRules {
     x.carry(1);
     x.carry(0);
     x.carry(1);
-  }
-
-  private static String types(Class<?>[] types) {
-    return Arrays.stream(types).map(Class::getName).collect(Collectors.joining(",", "(", ")"));
   }
 }

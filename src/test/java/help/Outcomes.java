@@ -1,6 +1,8 @@
 import java.util.Arrays;
 import java.util.HashMap;
+import java.util.List;
 import java.util.Map;
+import java.util.TreeSet;
 import java.util.function.Function;
 
 /**
@@ -26,27 +28,39 @@ final class Outcomes {
     }
   }
 
-  /** Every message of the table, and some more, in every situation; and every type of every protocol, bare. */
+  /**
+   * Every message of the table, and some more, in every situation; with an element more, which changes nothing; with
+   * a byte more, which leaves it, for it isn't good then; in every other protocol; and every type of some protocols.
+   */
   void check(String... more) {
+    TreeSet<String> messages = new TreeSet<>(List.of(more));
+    told.values().forEach(cells -> messages.add(cells[1]));
     for (String situation : situations) {
-      told.values().stream().map(cells -> cells[1]).distinct().forEach(message -> one(situation, message));
-      for (String message : more) {
-        one(situation, message);
+      for (String message : messages) {
+        one(situation, message, "");
+        one(situation, message, " 09 00");
+        one(situation, message, " 00");
+        for (int protocol = 0; protocol < 256; protocol++) {
+          one(situation, String.format("%02x", protocol) + message.substring(2), "");
+        }
       }
       for (int protocol : new int[] {0, 1, 2, 3, 4, 5, 6, 7, 19, 131, 133, 255}) {
         for (int type = 0; type < 256; type++) {
-          one(situation, String.format("%02x %02x", protocol, type));
+          one(situation, String.format("%02x %02x", protocol, type), "");
         }
       }
     }
   }
 
-  private void one(String situation, String message) {
-    String[] cells = told.get(situation + "|" + message);
+  private void one(String situation, String message, String extra) {
+    if (message.length() + extra.length() > 23) {
+      return;
+    }
+    String[] cells = extra.equals(" 00") ? null : row(situation, message);
     MobileCall x = scene.apply(situation);
     int[] before = Script.told(x);
-    String name = situation + ", " + message;
-    Script.due(name + ": forged", Script.forge(x, way, message), 1);
+    String name = situation + ", " + message + extra;
+    Script.due(name + ": forged", Script.forge(x, way, message + extra), 1);
     int type = Integer.parseInt(message.substring(3, 5), 16);
     int answer = x.carry(way);
     if (cells == null) {
@@ -58,6 +72,11 @@ final class Outcomes {
       Script.due(name + ": told", Arrays.toString(Script.told(x)), Arrays.toString(after(before, cells)));
       Script.due(name + ": sent", Script.bytes(x, 1 - way, 0), cells[4]);
     }
+  }
+
+  /** A message that is told without an element is told with any too. */
+  private String[] row(String situation, String message) {
+    return told.getOrDefault(situation + "|" + message, told.get(situation + "|" + message.substring(0, 5)));
   }
 
   private int[] after(int[] before, String[] cells) {

@@ -45,6 +45,13 @@ final class Scenes {
     return carry(askedService(), 1, 0, 1);
   }
 
+  /** The longest message there is, of 12 bytes, SET UP with the number 12345678, is in the row UP. */
+  static MobileCall longest() {
+    MobileCall x = registered();
+    x.dial(12345678, 8);
+    return carry(x, 0, 1, 0, 1);
+  }
+
   static MobileCall onItsWay() {
     return carry(setUp(), 0, 1);
   }
@@ -90,6 +97,13 @@ final class Scenes {
     return carry(networkEnding(), 1);
   }
 
+  /** Both calls are ENDING: END is in both rows. */
+  static MobileCall bothEnding() {
+    MobileCall x = mobileEnding();
+    x.clear(7);
+    return x;
+  }
+
   /** The situation of the mobile by name, with both rows empty. */
   static MobileCall ofMobile(String situation) {
     switch (situation) {
@@ -129,6 +143,23 @@ final class Scenes {
   static MobileCall carry(MobileCall x, int... ways) {
     for (int way : ways) {
       x.carry(way);
+    }
+    return x;
+  }
+
+  /** A row with so many messages, the last ones of them 05 00, which both sides leave. */
+  static MobileCall filled(MobileCall x, int way, int many) {
+    for (int k = x.told(8 + way); k < many; k++) {
+      x.forge(way, 0x0500, 2);
+    }
+    return x;
+  }
+
+  /** The first message of the row UP, spoilt so that it has these bytes, as many as it had. */
+  static MobileCall rewritten(MobileCall x, String bytes) {
+    String[] parts = bytes.split(" ");
+    for (int i = 0; i < parts.length; i++) {
+      x.spoil(0, i, x.byteOf(0, 0, i) ^ Integer.parseInt(parts[i], 16));
     }
     return x;
   }
