@@ -66,6 +66,7 @@ public final class TermsElements {
       }
     }
     left(way, situation, head + right.substring(0, right.length() - 3));
+    leftBehindALongerOne(way, situation, head, right);
     if (size < 4) {
       left(way, situation, head + right + " 00");
       taken(way, situation, head + right + " 09 00");
@@ -79,6 +80,18 @@ public final class TermsElements {
       taken(way, situation, head + " 09 01" + String.format(" %02x", tag) + right);
       left(way, situation, head + element(9, 3) + String.format(" %02x", tag));
     }
+  }
+
+  /** Should the places of messages be used again, nothing of a longer one is left in a shorter one. */
+  private static void leftBehindALongerOne(int way, String situation, String head, String element) {
+    MobileCall x = way == 1 ? Scenes.ofMobile(situation) : Scenes.ofNetwork(situation);
+    String row = way == 1 ? "down " : "up ";
+    int type = Integer.parseInt(head.substring(3), 16);
+    for (int k = 0; k < 12; k++) {
+      Script.run("a longer one before", x, "forge " + row + head + element, "lose(" + way + ") = " + type);
+    }
+    Script.run(situation + ", " + head + ", a longer one before", x, "forge " + row + head,
+        "carry(" + way + ") = " + (1000 + type), "left = 1");
   }
 
   private static String element(int tag, int length) {
@@ -127,6 +140,7 @@ public final class TermsElements {
     left(0, "call 0", "03 05 5e 01");
     left(0, "call 0", "03 05 5e 02 01");
     left(0, "call 0", "03 05 5e 01 01 01");
+    leftBehindALongerOne(0, "call 0", "03 05", element(0x5e, 4));
     for (int length = 1; length <= 4; length++) {
       taken(0, "call 0", "03 05" + element(0x5e, length));
     }
