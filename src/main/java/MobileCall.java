@@ -51,10 +51,10 @@ public final class MobileCall {
     private int left;
 
     public MobileCall(int key, int networkKey, int seed) {
-        up = new Row();
-        down = new Row();
-        mobile = new Mobile(up, key);
-        network = new Network(down, networkKey, seed);
+        mobile = new Mobile(key);
+        network = new Network(networkKey, seed);
+        up = mobile.out;
+        down = network.out;
         left = 0;
     }
 
@@ -439,8 +439,8 @@ public final class MobileCall {
         int lastCause;
         private boolean releasedTwice;
 
-        Party(Row out, int firstState, int restState) {
-            this.out = out;
+        Party(int firstState, int restState) {
+            out = new Row();
             this.restState = restState;
             state = firstState;
             call = NO_CALL;
@@ -574,8 +574,8 @@ public final class MobileCall {
         private final int[] digits;
         private int digitCount;
 
-        Mobile(Row out, int key) {
-            super(out, OFF, REGISTERED);
+        Mobile(int key) {
+            super(OFF, REGISTERED);
             this.key = key;
             area = 0;
             digits = new int[MOST_DIGITS];
@@ -772,8 +772,8 @@ public final class MobileCall {
         private final int[] number;
         private int numberLength;
 
-        Network(Row out, int key, int seed) {
-            super(out, IDLE, IDLE);
+        Network(int key, int seed) {
+            super(IDLE, IDLE);
             this.key = key;
             area = NO_AREA;
             challenge = seed;
