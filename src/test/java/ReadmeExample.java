@@ -13,7 +13,8 @@ import java.util.stream.Collectors;
 /** README.md tells of every method of the public face, and the answers in its example are those of the class. */
 public final class ReadmeExample {
   private static final Pattern CALL = Pattern.compile("x\\.(\\w+\\(.*\\)); *// (-?\\d+): .*");
-  private static final Pattern MADE = Pattern.compile("MobileCall x = new MobileCall\\((-?\\d+), (-?\\d+), (-?\\d+)\\);");
+  private static final Pattern MADE =
+      Pattern.compile("MobileCall x = new MobileCall\\((-?\\d+), (-?\\d+), (-?\\d+)\\);");
 
   public static void main(String[] args) throws IOException {
     List<String> readme = Files.readAllLines(Path.of("README.md"));
